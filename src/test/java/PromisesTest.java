@@ -52,6 +52,7 @@ public final class PromisesTest {
         read();
         readRefused();
         count();
+        sixDivers();
         Check.close();
     }
 
@@ -165,6 +166,8 @@ public final class PromisesTest {
         bad("drag 00005;", 1, 5);
         bad("drag 123456789012;", 1, 5);
         bad("drag 12345 ,", 1, 5);
+        bad("drag 5 12345;", 1, 7);
+        bad("diver 1 1 12345;", 1, 10);
         bad("drag 5", 2, 6);
         bad("drag 5  ", 2, 8);
         bad("drag", 2, 4);
@@ -178,6 +181,10 @@ public final class PromisesTest {
         bad("5 drag;", 2, 0);
         bad("dra 5;", 2, 0);
         bad("drags 5;", 2, 0);
+        bad("krag 5;", 2, 0);
+        bad("z 5;", 2, 0);
+        bad(" ".repeat(316) + "drag", 2, 320);
+        bad(" ".repeat(314) + "drag 5", 2, 320);
         bad("leak 5;", 2, 0);
         bad("hour 5;", 2, 6);
         bad("diver;", 2, 5);
@@ -543,6 +550,9 @@ public final class PromisesTest {
         DiverBottle salt = bottle("salt 0 50;diver 50 0;diver 51 0;");
         due(19, "goesAt: WEIGHT 0", salt.goesAt(0), NONE);
         due(19, "goesAt: WEIGHT 1", salt.goesAt(1), 0);
+        due(19, "goesAt: salt from 1 on", bottle("salt 1 50;diver 140 500;").goesAt(0), 47);
+        due(19, "goesAt: 500", bottle("diver 293 1499;").goesAt(0), 500);
+        due(19, "goesAt: 501", bottle("diver 293 1500;").goesAt(0), NONE);
     }
 
     private static void orderAndApart() {
@@ -568,6 +578,7 @@ public final class PromisesTest {
         due(22, "lifts(-1)", x.lifts(-1), BAD);
         // 175800 by 1059 is 166: the salt below does not help
         due(22, "lifts, salt", bottle("salt 60 50;diver 140 600;").lifts(0), 25);
+        due(22, "lifts, heaviest at the top", bottle("salt 1 50;diver 140 600;").lifts(0), 34);
         DiverBottle loaded = bottle(FETCHER);
         int bare = loaded.lifts(0);
         loaded.thumb(500);
@@ -636,6 +647,10 @@ public final class PromisesTest {
         due(25, "spread(5, 2, 0)", x.spread(5, 2, 0), 118);
         due(25, "spread(5, 2, 1)", x.spread(5, 2, 1), 348);
         due(25, "spread(5, 4, 0)", x.spread(5, 4, 0), NONE);
+        DiverBottle wide = bottle("air 800;height 10;salt 10 99;");
+        due(25, "spread from 1 to 500", wide.spread(999, 2, 0), 499);
+        due(25, "spread from 1 to 500", wide.spread(999, 2, 1), 1);
+        due(25, "spread of six from 1 to 500", wide.spread(999, 6, 0), 99);
         due(25, "spread(0, 2, 0)", x.spread(0, 2, 0), BAD);
         due(25, "spread(1000, 2, 0)", x.spread(1000, 2, 0), BAD);
         due(25, "spread(5, 1, 0)", x.spread(5, 1, 0), BAD);
@@ -653,6 +668,10 @@ public final class PromisesTest {
         due(26, "hold, LATE 1", x.hold(0, 50, 100, 1, 5, 3, 3), 95);
         due(26, "hold, LATE 2", x.hold(0, 50, 100, 2, 5, 3, 3), 100);
         due(26, "hold, LATE 50", x.hold(0, 50, 100, 50, 5, 3, 3), 100);
+        due(26, "hold, LATE 50", x.hold(0, 1, 500, 50, 1, 51, 3), 500);
+        due(26, "hold, LATE 50", x.hold(0, 1, 500, 50, 1, 52, 3), 499);
+        due(26, "hold, LATE 49", x.hold(0, 1, 500, 49, 1, 50, 3), 500);
+        due(26, "hold, LATE 49", x.hold(0, 1, 500, 49, 1, 52, 3), 498);
         due(26, "hold, one TICK", x.hold(0, 50, 100, 0, 5, 1, 1), 3209);
         due(26, "hold till the floor", x.hold(0, 99, 100, 0, 5, 999, 0), 4);
         due(26, "hold till the floor", x.hold(0, 99, 100, 0, 5, 999, 1), 6400);
@@ -710,23 +729,31 @@ public final class PromisesTest {
         due(28, "step, LOST by all at once", x.step(0, 99, 0, 0, 9, 1), 4);
         due(28, "step, not LOST", x.step(0, 99, 0, 0, 3, 0), 1);
         due(28, "step, not LOST", x.step(0, 99, 0, 0, 3, 1), NONE);
-        boolean lostBetween = false, heldBetween = false;
+        boolean lost = false, held = false;
         for (int late = 0; late <= 50; late += 5) {
             for (int depth = 10; depth <= 90; depth += 20) {
-                int best = 1, ticks = x.hold(1, depth, 9, late, 1, 400, 0);
-                for (int s = 2; s <= 50; s++) {
-                    int t = x.hold(1, depth, 9, late, s, 400, 0);
-                    if (ticks == NONE || (t != NONE && t <= ticks)) continue;
-                    best = s;
-                    ticks = t;
-                }
-                due(28, "step what 0", x.step(1, depth, 9, late, 400, 0), best);
-                due(28, "step what 1", x.step(1, depth, 9, late, 400, 1), ticks);
-                lostBetween |= best > 1 && ticks != NONE;
-                heldBetween |= best > 1 && ticks == NONE;
+                int best = bestStep(x, 1, depth, late);
+                int ticks = x.step(1, depth, 9, late, 400, 1);
+                lost |= best > 1 && ticks != NONE;
+                held |= best > 1 && ticks == NONE;
             }
         }
-        due(28, "a better STEP, LOST and not", (lostBetween ? 1 : 0) + (heldBetween ? 2 : 0), 3);
+        due(28, "a better STEP than 1, LOST and not", (lost ? 1 : 0) + (held ? 2 : 0), 3);
+        due(28, "the last STEP is best", bottle("drag 64;diver 300 1065;").step(0, 20, 0, 1, 400, 0), 50);
+    }
+
+    /** Holds by each STEP tell which is the best one, and step() the same. */
+    private static int bestStep(DiverBottle x, int k, int depth, int late) {
+        int best = 1, ticks = x.hold(k, depth, 9, late, 1, 400, 0);
+        for (int s = 2; s <= 50; s++) {
+            int t = x.hold(k, depth, 9, late, s, 400, 0);
+            if (ticks == NONE || (t != NONE && t <= ticks)) continue;
+            best = s;
+            ticks = t;
+        }
+        due(28, "step what 0", x.step(k, depth, 9, late, 400, 0), best);
+        due(28, "step what 1", x.step(k, depth, 9, late, 400, 1), ticks);
+        return best;
     }
 
     private static void hours() {
@@ -749,6 +776,8 @@ public final class PromisesTest {
         due(29, "hours, salt", salt.hours(0, 1), 24);
         // WEIGHT 0 at the top and on the floor: he stays
         due(29, "hours, WEIGHT 0", bottle("diver 100 342;").hours(0, 1), 0);
+        due(29, "hours, WEIGHT 0 on the floor", bottle("hour 0 250;diver 100 376;").hours(0, 0), 0xFFFFFF);
+        due(29, "hours, WEIGHT -1 on the floor", bottle("hour 0 250;diver 200 755;").hours(0, 0), 1);
     }
 
     private static void trips() {
@@ -806,6 +835,10 @@ public final class PromisesTest {
         due(31, "bladder with a LOAD", loaded.bladder(0, 0, 0, 1), 9591);
         due(31, "bladder, no BUBBLE is enough", loaded.bladder(0, 0, 200, 1), NONE);
         due(31, "bladder, no BUBBLE is enough", loaded.bladder(0, 0, 200, 0), NONE);
+        DiverBottle most = bottle("air 1200;warm 250;ring 963;diver 999 0 hook;");
+        most.go(999);
+        due(31, "bladder 9999", most.bladder(0, 74, 74, 1), 9999);
+        due(31, "bladder above 9999", most.bladder(0, 74, 75, 1), NONE);
     }
 
     private static void beats() {
@@ -1089,5 +1122,25 @@ public final class PromisesTest {
         x.sheet(0, 0, 5);
         due(43, "count(5)", x.count(5), 5);
         for (int what : new int[] {-1, 6, MAX, MIN}) due(43, "count(" + what + ")", x.count(what), BAD);
+    }
+
+    /** As many as there can be: what goes over them goes over no more. */
+    private static void sixDivers() {
+        DiverBottle x = bottle("height 10;drag 2;ring 7;" + "diver 128 0 hook;".repeat(6));
+        due(10, "go(99)", x.go(99), 63);
+        due(12, "now(3)", x.now(3), 63);
+        due(13, "drop()", x.drop(), 1);
+        due(20, "order(5)", x.order(5), 5);
+        due(20, "order(6)", x.order(6), BAD);
+        due(21, "apart()", x.apart(), 0);
+        due(36, "who()", x.who(), 63);
+        due(37, "keep(0)", x.keep(0), 0);
+        due(38, "restore(0)", x.restore(0), 99);
+        due(43, "count(0)", x.count(0), 6);
+        due(43, "count(1)", x.count(1), 6);
+        due(7, "diver(5, 0)", x.diver(5, 0), 128);
+        due(7, "diver(6, 0)", x.diver(6, 0), NO_WEIGHT);
+        due(11, "set(5, 0)", x.set(5, 0), 10);
+        due(11, "set(6, 0)", x.set(6, 0), BAD);
     }
 }
