@@ -732,27 +732,27 @@ public final class PromisesTest {
         boolean lost = false, held = false;
         for (int late = 0; late <= 50; late += 5) {
             for (int depth = 10; depth <= 90; depth += 20) {
-                int best = bestStep(x, 1, depth, late);
+                int best = bestStep(x, 1, depth, 9, late);
                 int ticks = x.step(1, depth, 9, late, 400, 1);
                 lost |= best > 1 && ticks != NONE;
                 held |= best > 1 && ticks == NONE;
             }
         }
         due(28, "a better STEP than 1, LOST and not", (lost ? 1 : 0) + (held ? 2 : 0), 3);
-        due(28, "the last STEP is best", bottle("drag 64;diver 300 1065;").step(0, 20, 0, 1, 400, 0), 50);
+        due(28, "the last STEP is best", bestStep(bottle("drag 64;diver 300 1065;"), 0, 20, 0, 1), 50);
     }
 
     /** Holds by each STEP tell which is the best one, and step() the same. */
-    private static int bestStep(DiverBottle x, int k, int depth, int late) {
-        int best = 1, ticks = x.hold(k, depth, 9, late, 1, 400, 0);
+    private static int bestStep(DiverBottle x, int k, int depth, int thumb, int late) {
+        int best = 1, ticks = x.hold(k, depth, thumb, late, 1, 400, 0);
         for (int s = 2; s <= 50; s++) {
-            int t = x.hold(k, depth, 9, late, s, 400, 0);
+            int t = x.hold(k, depth, thumb, late, s, 400, 0);
             if (ticks == NONE || (t != NONE && t <= ticks)) continue;
             best = s;
             ticks = t;
         }
-        due(28, "step what 0", x.step(k, depth, 9, late, 400, 0), best);
-        due(28, "step what 1", x.step(k, depth, 9, late, 400, 1), ticks);
+        due(28, "step what 0", x.step(k, depth, thumb, late, 400, 0), best);
+        due(28, "step what 1", x.step(k, depth, thumb, late, 400, 1), ticks);
         return best;
     }
 
