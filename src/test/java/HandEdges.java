@@ -151,6 +151,16 @@ final class HandEdges {
     }
 
     @Holds(says = "HOURS one behind another from 0 on, by their WARMTH, THUMB 0, BUBBLE, LOAD as now: he is at the top first;")
+    static void hoursByPressOfTopAndFloor() {
+        // 200 * 250 by 1000 is just 50: WEIGHT 0, and 1 by any more PRESS
+        due("at the top", bottle("warm 250;diver 50 200;").hours(0, 0), 0);
+        // down by 250; 195 * 282 by 1100 is 49: WEIGHT 0, and -1 by any less PRESS
+        due("on the floor", bottle("warm 282;hour 0 250;diver 49 195;").hours(0, 0), 0xFFFFFF);
+        // down by 250; 200 * 330 by 1100 is just 60: WEIGHT -1, and 0 by any more PRESS
+        due("up from the floor", bottle("warm 330;hour 0 250;diver 59 200;").hours(0, 0), 1);
+    }
+
+    @Holds(says = "HOURS one behind another from 0 on, by their WARMTH, THUMB 0, BUBBLE, LOAD as now: he is at the top first;")
     static void hoursWithALoad() {
         DiverBottle x = bottle("height 10;ring 6;diver 100 360 hook;");
         due("100 less 105480 by 1000", x.hours(0, 0), 0);
@@ -184,6 +194,14 @@ final class HandEdges {
         x.thumb(500);
         int[] trips = {1, 0, 999, 0, 2};
         for (int k = 0; k < 5; k++) due("trips(" + k + ")", x.trips(k), trips[k]);
+    }
+
+    @Holds(says = "TRIPS without a HOOK: each one takes LEAK, and he comes up, if his WEIGHT on the floor is below 0 with THUMB 0.")
+    static void tripsByPressOfTheFloor() {
+        // 220 * 250 by 1100 is just 50: WEIGHT -1, and 0 by any more PRESS
+        due("WEIGHT -1", bottle("warm 250;diver 49 220;").trips(0), 999);
+        // 174 * 293 by 1001 is 50, by 1000 too, by 999 it is 51
+        due("WEIGHT 0", bottle("air 990;height 10;diver 50 174;").trips(0), 0);
     }
 
     @Holds(says = "TRIPS without a HOOK: each one takes LEAK, and he comes up, if his WEIGHT on the floor is below 0 with THUMB 0.")
@@ -258,6 +276,9 @@ final class HandEdges {
         due("b 342, BUBBLE", x.beats(0, 342, 39, 1), NONE);
         due("b 0", x.beats(0, 0, 99, 1), 396);
         due("b 9999", x.beats(0, 9999, 1, 0), NONE);
+        // 200 * 250 by 1000 is just 50: WEIGHT 0, and 1 by any more PRESS
+        due("b 200", bottle("warm 250;diver 50 0;").beats(0, 200, 1, 0), NONE);
+        due("b 199", bottle("warm 250;diver 50 0;").beats(0, 199, 99, 0), 3);
     }
 
     @Holds(says = "if it is below 0 on the floor he is at the top in the next TICK, else that TICK adds gain to his BUBBLE (9999 at most).")
@@ -271,6 +292,8 @@ final class HandEdges {
         DiverBottle salt = bottle("salt 100 99;diver 50 0;");
         due("light on the floor at once: TICKS", salt.beats(0, 0, 1, 0), 2);
         due("light on the floor at once: BUBBLE", salt.beats(0, 0, 1, 1), 0);
+        due("lighter than there is need of: TICKS", salt.beats(0, 3, 1, 0), 2);
+        due("lighter than there is need of: BUBBLE", salt.beats(0, 3, 1, 1), 3);
         // the heaviest in the coldest and deepest needs 5600 of the 9999: 1000 * 1400 by 250
         DiverBottle most = bottle("air 1200;height 200;warm 250;diver 999 0;");
         due("the greatest BUBBLE there is need of", most.beats(0, 0, 1, 1), 5600);

@@ -82,6 +82,7 @@ final class PromiseHandEdges {
         for (int n = 1; n <= 5; n++) due(n + " TICKS", x.hold(0, 99, 0, 0, 1, n, 2), far[n - 1]);
         for (int n = 1; n <= 5; n++) due(n + " TICKS up", bottle(RISES).hold(0, 1, 0, 0, 1, n, 2), far[n - 1]);
         due("he stays", bottle("salt 0 50;diver 50 0;").hold(0, 50, 0, 0, 1, 99, 2), 0);
+        due("not of the hold before", x.hold(0, 99, 0, 0, 1, 1, 2), 9);
     }
 
     @Holds(in = 26, says = "2 the farthest that he was from DEPTH (FINE),")

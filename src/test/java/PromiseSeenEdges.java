@@ -79,6 +79,11 @@ final class PromiseSeenEdges {
         x.saw(0, 0, false);
         fits(x, 1, 9996, 4, 9999);
         fits(x, 999, 6590, 3410, 9999);
+        // on the floor: from 110000 by 293 on; by THUMB 500 too: from 160000 by 293 on
+        x.saw(0, 100, false);
+        fits(x, 100, 9624, 376, 9999);
+        x.saw(500, 100, false);
+        fits(x, 100, 9453, 547, 9999);
     }
 
     @Holds(in = 35, says = "how many BUBBLES (what 0), the least (1; NONE), the greatest (2; NONE).")

@@ -36,7 +36,7 @@ final class PromiseSheetEdges {
             read(x, 0, f, 1, 1, 0);
             due("fits(100, 1)", x.fits(100, 1), 342);
         }
-        for (int i = 0; i < 40; i++) x.lay(0, i, 1);
+        for (int i = 0; i < 40; i++) x.lay(0, i, 100);
         due("sheet(0) anew", x.sheet(0, 0, 40), 1);
         x.forget();
         read(x, 0, 0, 12, 12, 0);
@@ -181,6 +181,12 @@ final class PromiseSheetEdges {
             for (int what = 0; what < 3; what++) due("fits(" + heavy + ")", x.fits(heavy, what), y.fits(heavy, what));
         }
         due("count(2)", x.count(2), 3);
+        // DEPTH 100 alone tells the greatest BUBBLE: below 110000 by 293
+        x.forget();
+        x.sheet(0, 2, 3);
+        layAll(x, 0, 0, 100, 1);
+        read(x, 2, 0, 1, 1, 0);
+        due("by its DEPTH", x.fits(100, 2), 375);
     }
 
     @Holds(in = 41, says = "What the machine refuses: those that were whole ahead come (its FAULT is asked by torn()).")

@@ -2,6 +2,7 @@
 final class PromiseTickEdges {
     private static final int BAD = Check.BAD;
     private static final String DOWN_64 = "height 10;drag 64;";
+    private static final String BOTH = "salt 80 9;hour 3 255;diver 140 500 rate 3;diver 140 620 leak 3;";
 
     private PromiseTickEdges() {
     }
@@ -27,6 +28,33 @@ final class PromiseTickEdges {
         due("now(1)", x.now(1), 1);
     }
 
+    /** What is asked by a told THUMB, or by THUMB 0, whatever the THUMB is. */
+    private static int[] askedByTold(DiverBottle x) {
+        return new int[] {x.weighs(0, 50, 7), x.turning(0, 7), x.holding(0, 7), x.back(0), x.goesAt(0), x.order(0), x.apart(),
+            x.lifts(1), x.bubbles(140, 300, 0), x.bubbles(140, 300, 1), x.bubbles(140, 300, 2), x.atThumb(140, 30, 1),
+            x.atThumb(140, 30, 2), x.spread(5, 2, 0), x.spread(5, 2, 1), x.hold(0, 20, 7, 2, 3, 50, 1),
+            x.hold(0, 20, 7, 2, 3, 50, 2), x.late(0, 20, 7, 3, 99), x.step(0, 20, 7, 3, 99, 0), x.step(0, 20, 7, 3, 99, 1),
+            x.trips(1), x.bladder(0, 0, 50, 0), x.bladder(0, 0, 50, 1), x.beats(0, 300, 7, 0), x.beats(0, 300, 7, 1),
+            x.fits(140, 0), x.fits(140, 1), x.fits(140, 2), x.who()};
+    }
+
+    private static DiverBottle both(String warm) {
+        DiverBottle x = bottle(warm + BOTH);
+        x.saw(20, 30, false);
+        x.saw(120, 30, true);
+        return x;
+    }
+
+    @Holds(in = 8, says = "THUMB becomes v (0 to 500): what it was.")
+    static void thumbDoesNothingToWhatIsAskedByATold() {
+        DiverBottle x = both("");
+        int[] was = askedByTold(x), hours = {x.hours(0, 0), x.hours(0, 1)};
+        x.thumb(500);
+        int[] is = askedByTold(x);
+        for (int i = 0; i < was.length; i++) due("part " + i, is[i], was[i]);
+        for (int what = 0; what < 2; what++) due("hours(0, " + what + ")", x.hours(0, what), hours[what]);
+    }
+
     @Holds(in = 8, says = "BAD.")
     static void thumbBad() {
         DiverBottle x = new DiverBottle();
@@ -44,6 +72,24 @@ final class PromiseTickEdges {
         due("35000 by 1000", x.diver(0, 9), 65);
         due("warm(350) once more", x.warm(350), 350);
         due("rule(2)", x.rule(2), 350);
+    }
+
+    @Holds(in = 9, says = "warm becomes v (250 to 350): what it was.")
+    static void warmAsItIsIsAsWarmThatIsTold() {
+        int other = 0;
+        for (int v : new int[] {250, 275, 350}) {
+            DiverBottle x = both(""), y = both("warm " + v + ";");
+            int[] was = askedByTold(x), want = askedByTold(y);
+            x.warm(v);
+            int[] is = askedByTold(x);
+            for (int i = 0; i < was.length; i++) {
+                due("part " + i + " by warm " + v, is[i], want[i]);
+                if (is[i] != was[i]) other |= 1 << i;
+            }
+            due("HOURS are as told", x.hours(0, 0), both("").hours(0, 0));
+        }
+        // each part but order() is another one by one of them
+        due("parts that are other", other, (1 << 29) - 1 - (1 << 5));
     }
 
     @Holds(in = 9, says = "BAD.")
@@ -229,6 +275,18 @@ final class PromiseTickEdges {
         x.set(1, 9);
         x.go(1);
         due("who comes takes it", x.diver(1, 5), 5);
+    }
+
+    @Holds(in = 13, says = "THE RING lies on the floor again (who had it has no LOAD): whether it was not there (1, 0).")
+    static void dropOfTheFirstAndOfTheLast() {
+        for (int has = 0; has < 6; has += 5) {
+            DiverBottle x = bottle(DOWN_64 + "ring 5;" + "diver 65 0 hook;".repeat(6));
+            x.set(has, 9);
+            x.go(1);
+            due("LOAD of " + has, x.diver(has, 5), 5);
+            due("drop()", x.drop(), 1);
+            due("LOAD then", x.diver(has, 5), 0);
+        }
     }
 
     @Holds(in = 13, says = "THE RING lies on the floor again (who had it has no LOAD): whether it was not there (1, 0).")

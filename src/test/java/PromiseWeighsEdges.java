@@ -124,6 +124,7 @@ final class PromiseWeighsEdges {
     @Holds(in = 18, says = "NONE: from none.")
     static void backNone() {
         due("WEIGHT 0 at the top", bottle("diver 100 344;").back(0), NONE);
+        due("WEIGHT 0 at the top: 50982 by 1000, by 999 it is 51", bottle("diver 50 174;").back(0), NONE);
         due("heavy", bottle("diver 100 0;").back(0), NONE);
         due("light in the salt only", bottle("salt 1 99;diver 50 0;").back(0), NONE);
     }

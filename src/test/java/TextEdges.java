@@ -414,6 +414,21 @@ final class TextEdges {
         for (int i = 0; i < 5; i++) due("count(" + i + ")", x.count(i), 0);
     }
 
+    @Holds(says = "A text that is taken tells all, in place of what there was:")
+    static void theRingLiesThereAndWasNeverFetched() {
+        DiverBottle x = bottle("height 10;ring 1;diver 100 360 hook;");
+        x.thumb(500);
+        x.go(99);
+        x.thumb(0);
+        x.go(300);
+        due("FETCHED before", x.now(5), 1);
+        due("on the floor before", x.now(4), 0);
+        Check.tell(x, "ring 2;");
+        due("FETCHED", x.now(5), 0);
+        due("on the floor", x.now(4), 1);
+        due("drop()", x.drop(), 0);
+    }
+
     @Holds(says = "DIVERS are at DEPTH 0, their PACE 0;")
     static void diversAreAtTheTop() {
         DiverBottle x = used();

@@ -216,6 +216,15 @@ final class WaterEdges {
         due("PACE of one who rests on the floor", rests.diver(0, 8), 0);
         due("PACE of one who rests at the top", rests.diver(1, 8), 0);
         due("FINE DEPTH of one who rests at the top", rests.diver(1, 7), 0);
+        // WEIGHTS of 1 and -1 are enough
+        DiverBottle one = bottle("diver 1 0;"), less = bottle("salt 0 2;diver 1 0;");
+        one.set(0, 100);
+        one.go(1);
+        due("FINE DEPTH by WEIGHT 1", one.diver(0, 7), 6400);
+        due("PACE by WEIGHT 1", one.diver(0, 8), 0);
+        less.go(1);
+        due("FINE DEPTH by WEIGHT -1", less.diver(0, 7), 0);
+        due("PACE by WEIGHT -1", less.diver(0, 8), 0);
     }
 
     @Holds(says = "his PACE is 0 then (also just there, if PACE goes on that way).")
@@ -451,6 +460,12 @@ final class WaterEdges {
         due("all SEEN: it is so already", x.fits(100, 2), 341);
         x.saw(0, 10, false);
         due("all SEEN: 100 * 1010 by 293 is above 344", x.fits(100, 0), 0);
+        x.forget();
+        x.saw(0, 10, true);
+        due("by its DEPTH", x.fits(100, 2), 344);
+        x.forget();
+        x.saw(7, 10, false);
+        due("by its THUMB and its DEPTH: 101700 by 293 is above 347", x.fits(100, 1), 348);
     }
 
     // ---- SHEETS
