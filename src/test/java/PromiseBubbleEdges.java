@@ -92,6 +92,9 @@ final class PromiseBubbleEdges {
         atThumb(bottle("salt 0 99;"), 99, 0, 0, NONE, NONE);
         atThumb(bottle("salt 0 99;"), 1, 500, 0, NONE, NONE);
         atThumb(bottle("salt 0 99;"), 100, 0, 4, 0, 3);
+        // the salt from 1 on is not at DEPTH 0
+        atThumb(bottle("salt 1 99;"), 1, 173, 1, 4, 4);
+        atThumb(bottle("salt 1 99;"), 999, 500, 4, 5111, 5114);
     }
 
     @Holds(in = 24, says = "BAD.")

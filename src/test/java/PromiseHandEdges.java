@@ -235,6 +235,10 @@ final class PromiseHandEdges {
         DiverBottle x = bottle("warm 295;hour 0 294;hour 1 327;hour 23 294;diver 100 340;");
         due("HOURS 0 and 23", x.hours(0, 0), 0x800001);
         due("down, up, down", x.hours(0, 1), 3);
+        // down by 250; on a floor of 10 66000 by 1010 is 65, on one of 100 it would be 60
+        DiverBottle low = bottle("height 10;warm 330;hour 0 250;diver 62 200;");
+        due("HOUR 0", low.hours(0, 0), 1);
+        due("down, up", low.hours(0, 1), 2);
     }
 
     @Holds(in = 29, says = "BAD.")
@@ -330,6 +334,7 @@ final class PromiseHandEdges {
         due("the same", x.bladder(0, 74, 74, 0), 0);
         due("9999 is not enough there", x.bladder(0, 74, 75, 1), NONE);
         due("9999 is not enough there, TICKS", x.bladder(0, 74, 75, 0), NONE);
+        due("9999 is not enough where he comes from, TICKS", x.bladder(0, 75, 74, 0), NONE);
         due("9999 is not enough at the same DEPTH", x.bladder(0, 75, 75, 0), NONE);
     }
 

@@ -84,6 +84,11 @@ final class PromiseSeenEdges {
         fits(x, 100, 9624, 376, 9999);
         x.saw(500, 100, false);
         fits(x, 100, 9453, 547, 9999);
+        // what tells less, SEEN later, changes nothing
+        x.saw(0, 0, false);
+        fits(x, 100, 9453, 547, 9999);
+        x.saw(500, 100, true);
+        fits(x, 200, 0, NONE, NONE);
     }
 
     @Holds(in = 35, says = "how many BUBBLES (what 0), the least (1; NONE), the greatest (2; NONE).")
@@ -201,7 +206,8 @@ final class PromiseSeenEdges {
         x.warm(300);
         x.set(1, 5);
         x.go(1);
-        x.saw(1, 2, true);
+        x.saw(140, 2, true);
+        x.saw(1, 7, false);
         return x;
     }
 
@@ -247,6 +253,8 @@ final class PromiseSeenEdges {
         for (int turn = 0; turn < 2; turn++) {
             x.go(99);
             x.forget();
+            x.saw(400, 9, false);
+            x.saw(500, 10, true);
             x.set(0, 2);
             due("restore(1)", x.restore(1), 64);
             same("behind restore(1)", x, was);

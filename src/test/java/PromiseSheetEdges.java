@@ -115,6 +115,22 @@ final class PromiseSheetEdges {
         due("read whose first is CELL 1", x.read(0, 2, 1, 1), 1);
     }
 
+    @Holds(in = 40, says = "CELL i of a SHEET becomes v (its lowest bits): 1.")
+    static void eachSheetHasItsOwnCells() {
+        DiverBottle x = new DiverBottle();
+        for (int k = 0; k < 4; k++) x.sheet(k, 2, 3);
+        for (int k = 0; k < 4; k++) layAll(x, k, 100 * k, 10 * k, 1);
+        for (int k = 0; k < 4; k++) {
+            DiverBottle y = new DiverBottle();
+            y.saw(100 * k, 10 * k, true);
+            x.forget();
+            due("read of SHEET " + k, x.read(k, 2, 0, 1), 1);
+            due("fits(100, 2)", x.fits(100, 2), y.fits(100, 2));
+            x.lay(k, 2, 2);
+            due("read of SHEET " + k + " that is not as told", x.read(k, 2, 0, 1), -20);
+        }
+    }
+
     @Holds(in = 40, says = "BAD: k;")
     static void layBad() {
         DiverBottle x = new DiverBottle();

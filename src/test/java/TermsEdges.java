@@ -73,10 +73,20 @@ final class TermsEdges {
     @Holds(says = "there is no such DIVER, DEPTH, IMAGE, SHEET)")
     static void noSuchDiverBehindATextWithFewer() {
         DiverBottle x = bottle(TWO);
-        Check.tell(x, "diver 7 0;");
-        due("diver(0, 0)", x.diver(0, 0), 7);
+        Check.tell(x, "diver 140 500;");
+        due("diver(0, 0)", x.diver(0, 0), 140);
         due("diver(1, 0)", x.diver(1, 0), NO_WEIGHT);
         due("trips(1)", x.trips(1), BAD);
+        due("order(0)", x.order(0), 0);
+        due("order(1)", x.order(1), BAD);
+        due("apart()", x.apart(), NONE);
+        due("who()", x.who(), 1);
+        // nor does he who was there take THE RING
+        DiverBottle hooks = bottle("diver 1 0;diver 999 0 hook;");
+        Check.tell(hooks, "ring 5;height 10;diver 1 9999;");
+        due("go(999)", hooks.go(999), 0);
+        due("now(4)", hooks.now(4), 1);
+        due("count(1)", hooks.count(1), 0);
     }
 
     @Holds(says = "there is no such DIVER, DEPTH, IMAGE, SHEET)")
@@ -299,6 +309,28 @@ final class TermsEdges {
         due("count(0)", x.count(0), 6);
         due("now(2)", x.now(2), 63);
         Check.faulty("diver 1 1;".repeat(6) + "^diver 1 1;", 5);
+    }
+
+    /** What can be asked of a DIVER. */
+    private static int[] asked(DiverBottle x, int k) {
+        return new int[] {x.diver(k, 0), x.diver(k, 1), x.diver(k, 2), x.diver(k, 3), x.diver(k, 4), x.diver(k, 9),
+            x.weighs(k, 50, 30), x.turning(k, 3), x.holding(k, 60), x.back(k), x.goesAt(k), x.lifts(k),
+            x.hold(k, 20, 5, 2, 3, 60, 0), x.hold(k, 20, 5, 2, 3, 60, 1), x.hold(k, 20, 5, 2, 3, 60, 2),
+            x.hold(k, 20, 5, 2, 3, 60, 3), x.late(k, 20, 5, 3, 60), x.step(k, 20, 5, 2, 60, 0), x.step(k, 20, 5, 2, 60, 1),
+            x.hours(k, 0), x.hours(k, 1), x.trips(k), x.bladder(k, 0, 50, 0), x.bladder(k, 0, 50, 1), x.beats(k, 20, 7, 0),
+            x.beats(k, 20, 7, 1), x.set(k, 30), x.diver(k, 6), x.diver(k, 9)};
+    }
+
+    @Holds(says = "A DIVER (6):")
+    static void eachOfSixIsAsHeIsAlone() {
+        String rules = "salt 70 9;hour 3 350;";
+        String[] lines = {"diver 140 500 leak 9 rate 1;", "diver 7 0 hook;", "diver 100 380 leak 2;", "diver 9 200 rate 5;",
+            "diver 300 1065 rate 9;", "diver 140 480 hook leak 3;"};
+        DiverBottle six = bottle(rules + String.join("", lines));
+        for (int k = 0; k < 6; k++) {
+            int[] is = asked(six, k), alone = asked(bottle(rules + lines[k]), 0);
+            for (int i = 0; i < is.length; i++) due("part " + i + " of DIVER " + k, is[i], alone[i]);
+        }
     }
 
     private static void diverBounds(int what, String before, String behind, int least, int most) {

@@ -379,6 +379,9 @@ final class WaterEdges {
         due("on the floor", bottle("height 10;salt 10 9;diver 9 0;").holding(0, 0), 10);
         due("below the floor", bottle("height 10;salt 11 9;diver 9 0;").holding(0, 0), NONE);
         due("DEPTH 0 is none", bottle("salt 0 9;diver 9 0;").holding(0, 0), NONE);
+        // at the top he weighs 0 by THUMB 46, 1 by THUMB 47
+        due("0 at the top", bottle("salt 1 99;diver 140 500;").holding(0, 46), NONE);
+        due("1 at the top", bottle("salt 1 99;diver 140 500;").holding(0, 47), 1);
         // one DEPTH above it is 0: 146500 by 1040 is 140, and salt from 41 on
         due("0 one DEPTH above", bottle("salt 41 9;diver 140 500;").holding(0, 0), NONE);
         due("WEIGHT at 46 is 0", bottle("diver 140 500;").weighs(0, 46, 0), 0);
