@@ -13,21 +13,17 @@ import java.util.regex.Pattern;
 
 /** The face is the document's and no more; the source keeps to those rules of LANGUAGE.md that can be seen in it. */
 public final class FaceTest {
-    private static final String FACE = "feed(long) end(int) text() fault() rule(int) diver(int,int) thumb(int) warm(int) "
-        + "go(int) set(int,int) now(int) drop() press(int) weighs(int,int,int) turning(int,int) holding(int,int) "
-        + "back(int) goesAt(int) order(int) apart() lifts(int) bubbles(int,int,int) atThumb(int,int,int) "
-        + "spread(int,int,int) hold(int,int,int,int,int,int,int) late(int,int,int,int,int) "
-        + "step(int,int,int,int,int,int) hours(int,int) trips(int) bladder(int,int,int,int) beats(int,int,int,int) "
-        + "saw(int,int,boolean) forget() fits(int,int) who() keep(int) restore(int) sheet(int,int,int) "
-        + "lay(int,int,int) read(int,int,int,int) torn() count(int)";
+    private static final String DOCUMENT = "../shared/DOC.md";
+    private static final Pattern TOLD = Pattern.compile("    public int (\\w+)\\(([^)]*)\\);");
     private static final String[] RULED_OUT = {"throw", "throws", "try", "catch", "synchronized", "assert", "import",
         "package", "protected", "goto", "->", "::", "Object", "Random", "System.out", "hashCode", "getClass", "volatile",
         "transient", "native", "strictfp", "Exact"};
     private static int wrong = 0;
 
     public static void main(String[] args) throws Exception {
-        face();
-        members();
+        TreeSet<String> told = toldFace(Files.readString(Path.of(DOCUMENT)));
+        face(told);
+        members(told);
         nested();
         source(Files.readString(Path.of(args.length > 0 ? args[0] : "src/main/java/DiverBottle.java")));
         System.out.println(wrong == 0 ? "the face is as due" : wrong + " faults of the face or the source");
@@ -40,8 +36,16 @@ public final class FaceTest {
         System.out.println(what);
     }
 
-    private static void face() throws Exception {
-        TreeSet<String> due = new TreeSet<>(Arrays.asList(FACE.split(" "))), is = new TreeSet<>();
+    /** The methods under 'The public face', as name(type,type). */
+    private static TreeSet<String> toldFace(String document) {
+        TreeSet<String> told = new TreeSet<>();
+        Matcher m = TOLD.matcher(document);
+        while (m.find()) told.add(m.group(1) + "(" + m.group(2).replaceAll(" \\w+(, )?", ",").replaceFirst(",$", "") + ")");
+        return told;
+    }
+
+    private static void face(TreeSet<String> due) throws Exception {
+        TreeSet<String> is = new TreeSet<>();
         for (Method m : DiverBottle.class.getDeclaredMethods()) {
             if (!Modifier.isPublic(m.getModifiers())) continue;
             StringBuilder types = new StringBuilder();
@@ -62,9 +66,9 @@ public final class FaceTest {
         check(DiverBottle.class.getFields().length == 4, "other public constants");
     }
 
-    private static void members() {
+    private static void members(TreeSet<String> told) {
         TreeSet<String> publicNames = new TreeSet<>();
-        for (String f : FACE.split(" ")) publicNames.add(f.replaceFirst("\\(.*", ""));
+        for (String f : told) publicNames.add(f.replaceFirst("\\(.*", ""));
         List<Member> all = new ArrayList<>();
         all.addAll(Arrays.asList(DiverBottle.class.getDeclaredMethods()));
         all.addAll(Arrays.asList(DiverBottle.class.getDeclaredFields()));
