@@ -78,6 +78,11 @@ public final class FaceTest {
             check(Modifier.isPrivate(mods), "rule 1: visible: " + m);
             check(!(m instanceof Method) || !publicNames.contains(m.getName()), "rule 1: a public name: " + m);
         }
+        for (Class<?> c : DiverBottle.class.getDeclaredClasses()) {
+            for (Method m : c.getDeclaredMethods()) {
+                check(!publicNames.contains(m.getName()), "rule 1: a public name inside: " + m);
+            }
+        }
     }
 
     private static void nested() {
